@@ -98,7 +98,7 @@ public final class EbonyPegs {
         if (!plan.hasPeg(p)) {
             return BAD;
         }
-        if (plan.isDown(horse)) {
+        if (horse.isDown()) {
             return NO;
         }
         past.put(horse);
@@ -107,7 +107,7 @@ public final class EbonyPegs {
     }
 
     public int flyOn() {
-        if (plan.isDown(horse)) {
+        if (horse.isDown()) {
             return NO;
         }
         past.put(horse);
@@ -148,7 +148,7 @@ public final class EbonyPegs {
     // ---- what would be
 
     public int safe() {
-        if (plan.isDown(horse)) {
+        if (horse.isDown()) {
             return 0;
         }
         int bits = 0;
@@ -220,7 +220,7 @@ public final class EbonyPegs {
         if (n < 1 || n > 20) {
             return BAD;
         }
-        if (plan.isDown(horse)) {
+        if (horse.isDown()) {
             return NO;
         }
         trial.copy(horse);
@@ -296,7 +296,7 @@ public final class EbonyPegs {
         }
         trial.copy(horse);
         int turns = 0;
-        while (turns < n && !plan.isDown(trial)) {
+        while (turns < n && !trial.isDown()) {
             plan.turnPeg(trial, drawnPeg(z, turns));
             turns++;
         }
@@ -340,11 +340,11 @@ public final class EbonyPegs {
 
     /** Turns p, then q; false if the second one could not be turned any more, or neither could. */
     private boolean turnBoth(Horse flown, int p, int q) {
-        if (plan.isDown(flown)) {
+        if (flown.isDown()) {
             return false;
         }
         plan.turnPeg(flown, p);
-        if (plan.isDown(flown)) {
+        if (flown.isDown()) {
             return false;
         }
         plan.turnPeg(flown, q);
@@ -432,6 +432,11 @@ public final class EbonyPegs {
 
         int spot() {
             return 10 * y + x;
+        }
+
+        /** LANDED or FALLEN, by whether there is a roof. */
+        boolean isDown() {
+            return height == 0;
         }
 
         boolean isLike(Horse other) {
@@ -539,16 +544,12 @@ public final class EbonyPegs {
             return false;
         }
 
-        boolean isDown(Horse flown) {
-            return flown.height == 0;
-        }
-
         boolean hasLanded(Horse flown) {
-            return isDown(flown) && isRoofAt(flown.x, flown.y);
+            return flown.isDown() && isRoofAt(flown.x, flown.y);
         }
 
         boolean hasFallen(Horse flown) {
-            return isDown(flown) && !isRoofAt(flown.x, flown.y);
+            return flown.isDown() && !isRoofAt(flown.x, flown.y);
         }
 
         boolean isDoubling(int p) {
@@ -807,7 +808,7 @@ public final class EbonyPegs {
         int pathTo(int x, int y) {
             for (int i = from; i < to; i++) {
                 standAt(line[i] & ((1 << PLACE_BITS) - 1));
-                if (flown.height == 0 && flown.x == x && flown.y == y) {
+                if (flown.isDown() && flown.x == x && flown.y == y) {
                     return line[i] >> PLACE_BITS;
                 }
             }

@@ -135,6 +135,15 @@ public final class HorsesTest {
     Check.stands("laid without b and t", x, 5, 5, 3, 0, 0, 1, 0, 0, NONE);
     Check.due("count(1) of no roofs", x.count(1), 0);
     for (int h = 1; h <= 9; h++) Check.due("no winds: wind(" + h + ")", x.wind(h), 4);
+    // nothing of the text ahead is left
+    x = Check.laid("p0,5,0;p0,6,0;r1,1;w1,1;w9,2;b1,2,9,3;t2;");
+    Check.text(x, "p2,3,1;");
+    Check.due("lay() of another text", x.lay(), 1);
+    Check.stands("laid behind another", x, 5, 5, 3, 0, 0, 1, 0, 0, NONE);
+    Check.due("peg(0, 0) behind another", x.peg(0, 0), 2);
+    Check.due("peg(1, 0) behind another", x.peg(1, 0), BAD);
+    Check.due("roof(0, 0) behind another", x.roof(0, 0), BAD);
+    for (int h = 1; h <= 9; h++) Check.due("behind another: wind(" + h + ")", x.wind(h), 4);
     StringBuilder long200 = new StringBuilder("p1,2,3;");
     while (long200.length() < 199) long200.append("t1;");
     long200.setLength(199);

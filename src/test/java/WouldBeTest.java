@@ -125,6 +125,10 @@ public final class WouldBeTest {
     way(x, 1);
     noWay(x, 2);
     for (int n = 0; n < 6; n++) Check.due("near(" + n + ") when landed", x.near(n), 3);
+    // the corner, going north
+    x = down("p0,4,0;r0,0;b0,0,1,0;");
+    way(x, 0);
+    Check.due("near(0) in the corner", x.near(0), 1);
     x = down(FALLEN);
     noWay(x, 0);
     for (int n = 0; n < 6; n++) Check.due("near(" + n + ") when fallen", x.near(n), 0);
