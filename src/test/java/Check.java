@@ -1,20 +1,32 @@
-/** What every test of the project uses: answers compared, texts written. */
+import java.util.Map;
+
+/** What every test of the project uses: answers compared, texts written, the document's words named. */
 final class Check {
   private static int wrong = 0;
+  private static Map<String, String> document;
+  private static String sentence = "";
 
   private Check() { }
+
+  /** What follows tests these words of a section of the document (see Doc), which must stand there. */
+  static void says(String section, String words) {
+    if (document == null) document = Doc.sections();
+    sentence = "";
+    holds("the document says in " + section + ": " + words, document.getOrDefault(section, "").contains(words));
+    sentence = "[" + section + ": " + words + "] ";
+  }
 
   static void due(String call, long got, long want) {
     if (got != want) {
       wrong++;
-      System.out.println(call + " answered " + got + ", due is " + want);
+      System.out.println(sentence + call + " answered " + got + ", due is " + want);
     }
   }
 
   static void holds(String what, boolean so) {
     if (!so) {
       wrong++;
-      System.out.println("not so: " + what);
+      System.out.println(sentence + "not so: " + what);
     }
   }
 
@@ -46,5 +58,10 @@ final class Check {
   /** now(0) to now(8), one behind the other. */
   static void stands(String when, EbonyPegs x, int... want) {
     for (int i = 0; i < want.length; i++) due(when + ": now(" + i + ")", x.now(i), want[i]);
+  }
+
+  /** count(0) to count(5), one behind the other. */
+  static void counts(String when, EbonyPegs x, int... want) {
+    for (int i = 0; i < want.length; i++) due(when + ": count(" + i + ")", x.count(i), want[i]);
   }
 }

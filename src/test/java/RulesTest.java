@@ -16,15 +16,23 @@ public final class RulesTest {
     "which(III)", "likely(II)", "flight(III)", "keep()", "back()", "count(I)"
   };
   private static final String[] FORBIDDEN = {
-    "\\bthrow\\b", "\\btry\\b", "\\bcatch\\b", "\\bsynchronized\\b", "\\bassert\\b", "\\bimport\\b", "\\bpackage\\b", "->", "::",
-    "\\bObject\\b", "\\bSystem\\.(?!arraycopy)", "Exact\\b", "\\bdouble\\b", "\\bfloat\\b", "static\\s*\\{", "\\bThread\\b", "@"
+    "\\bthrow\\b", "\\bthrows\\b", "\\btry\\b", "\\bcatch\\b", "\\bsynchronized\\b", "\\bassert\\b", "\\bimport\\b", "\\bpackage\\b",
+    "\\bprotected\\b", "->", "::", "\\bObject\\b", "Exact\\b", "\\bdouble\\b", "\\bfloat\\b", "static\\s*\\{", "\\bThread\\b", "@",
+    "\\b(?:hashCode|toString|equals)\\b", "\\binstanceof\\b", "while\\s*\\(\\s*true", "for\\s*\\([^;]*;\\s*;", "\"\\s*\\+", "\\+\\s*\""
   };
+  /** All of the library that the class uses; its own classes are named beside it. */
+  private static final Set<String> LIBRARY = Set.of("Math.max");
+  private static final Pattern METHOD = Pattern.compile("(?m)^( +)(?:[\\w\\[\\]]+ )*(\\w+)\\([^;\\n]*\\) \\{$");
 
   public static void main(String[] args) throws Exception {
     face();
     fields();
     nested();
+    types();
     words();
+    library();
+    methods();
+    makes();
     room();
     Check.end();
   }
@@ -71,18 +79,88 @@ public final class RulesTest {
         else Check.holds(f + " is final", Modifier.isFinal(f.getModifiers()));
       }
       Check.holds(c + " has some twenty fields at most", own <= 20);
-      for (Method m : c.getDeclaredMethods()) Check.holds(m + " takes seven at most", m.getParameterCount() <= 7);
+      for (Method m : c.getDeclaredMethods()) {
+        Check.holds(m + " takes seven at most", m.getParameterCount() <= 7);
+        Check.holds(m + " bears no name of the face", !isOfTheFace(m.getName()));
+      }
     }
+    for (Method m : EbonyPegs.class.getDeclaredMethods()) Check.holds(m + " takes seven at most", m.getParameterCount() <= 7);
+    // a local, anonymous or synthetic class would be a member of the nest beside these
+    Check.due("classes in the file", EbonyPegs.class.getNestMembers().length, 1 + classes.length);
+  }
+
+  private static boolean isOfTheFace(String name) {
+    for (String method : FACE) if (method.substring(0, method.indexOf('(')).equals(name)) return true;
+    return false;
+  }
+
+  private static void types() {
+    for (Class<?> c : EbonyPegs.class.getNestMembers())
+      for (Field f : c.getDeclaredFields()) {
+        Class<?> type = f.getType().isArray() ? f.getType().getComponentType() : f.getType();
+        boolean own = type.getNestHost() == EbonyPegs.class;
+        boolean plain = Set.of(int.class, long.class, char.class, boolean.class, byte.class, short.class, String.class).contains(type);
+        Check.holds(f + " is of a type that is told", own || plain);
+        if (Modifier.isStatic(f.getModifiers())) Check.holds(f + " is a constant that is told", plain && type != short.class);
+      }
+    int own = 0;
+    for (Field f : EbonyPegs.class.getDeclaredFields()) if (!Modifier.isStatic(f.getModifiers())) own++;
+    Check.holds("some twenty fields at most: " + own, own <= 20);
+  }
+
+  private static String source() throws Exception {
+    return Files.readString(Path.of("src/main/java/EbonyPegs.java"));
+  }
+
+  /** The source without comments. */
+  private static String bare() throws Exception {
+    return source().replaceAll("(?s)/\\*.*?\\*/", "").replaceAll("//[^\n]*", "");
   }
 
   private static void words() throws Exception {
-    String source = Files.readString(Path.of("src/main/java/EbonyPegs.java"));
-    String bare = source.replaceAll("(?s)/\\*.*?\\*/", "").replaceAll("//[^\n]*", "");
+    String source = source();
+    String bare = bare();
     for (String word : FORBIDDEN) {
       Matcher m = Pattern.compile(word).matcher(bare);
       Check.holds("no " + word, !m.find());
     }
     for (char c : source.toCharArray()) if (c > 126) Check.holds("a sign beyond 126: " + (int) c, false);
+  }
+
+  private static void library() throws Exception {
+    Set<String> own = new TreeSet<>();
+    for (Class<?> c : EbonyPegs.class.getDeclaredClasses()) own.add(c.getSimpleName());
+    Matcher m = Pattern.compile("\\b([A-Z]\\w*[a-z]\\w*)\\.(\\w+)").matcher(bare());
+    while (m.find()) Check.holds("the library has " + m.group(), own.contains(m.group(1)) || LIBRARY.contains(m.group()));
+    m = Pattern.compile("\\bnew ([A-Z]\\w*)").matcher(bare());
+    while (m.find()) Check.holds("a class of its own: " + m.group(), own.contains(m.group(1)));
+  }
+
+  private static void methods() throws Exception {
+    String bare = bare();
+    Matcher m = METHOD.matcher(bare);
+    int found = 0;
+    while (m.find()) {
+      if (Set.of("if", "for", "while", "switch").contains(m.group(2))) continue;
+      found++;
+      int end = bare.indexOf("\n" + m.group(1) + "}\n", m.end() - 1);
+      long lines = bare.substring(m.start(), end).lines().count();
+      Check.holds(m.group(2) + " has some sixty lines at most: " + lines, lines <= 60);
+    }
+    Check.holds("all methods were looked at: " + found, found > FACE.length);
+  }
+
+  /** Rows and objects are made where an object is made: by fields and by constructors. */
+  private static void makes() throws Exception {
+    String bare = bare();
+    Matcher m = METHOD.matcher(bare);
+    Set<String> constructors = Set.of("EbonyPegs", "Shelf", "Outlook");
+    while (m.find()) {
+      String name = m.group(2);
+      if (constructors.contains(name) || Set.of("if", "for", "while", "switch").contains(name)) continue;
+      String body = bare.substring(m.end(), bare.indexOf("\n" + m.group(1) + "}\n", m.end() - 1));
+      Check.holds(name + " makes no object", !Pattern.compile("\\bnew\\b").matcher(body).find());
+    }
   }
 
   /** All calls of a run share one room: the constructor makes the rows, and no call makes more. */
