@@ -166,7 +166,7 @@ public final class EbonyPegs {
         if (!plan.hasRoof(r) || k < -1 || k >= MOST_TURNS) {
             return BAD;
         }
-        outlook.begin(horse);
+        outlook.startAt(horse);
         for (int turns = 0; turns <= MOST_TURNS; turns++) {
             int path = outlook.pathTo(plan.roofXs[r], plan.roofYs[r]);
             if (path >= 0) {
@@ -183,7 +183,7 @@ public final class EbonyPegs {
         if (n < 0 || n > 5) {
             return BAD;
         }
-        outlook.begin(horse);
+        outlook.startAt(horse);
         int bits = outlook.roofsReached();
         for (int turns = 0; turns < n; turns++) {
             outlook.grow();
@@ -780,7 +780,7 @@ public final class EbonyPegs {
             this.plan = plan;
         }
 
-        void begin(Horse current) {
+        void startAt(Horse current) {
             for (int i = 0; i < met.length; i++) {
                 met[i] = 0;
             }

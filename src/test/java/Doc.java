@@ -8,8 +8,8 @@ import java.util.regex.Matcher;
 import java.util.regex.Pattern;
 
 /**
- * The document, cut into what tests can name: "use", the parts "1" to "4", "refusals", and each
- * promise by its call ("new" is the constructor).
+ * The document, cut into what tests can name: "what" (it is), "use", the parts "1" to "4",
+ * "refusals", and each promise by its call ("new" is the constructor).
  */
 final class Doc {
   private static final Path FILE = Path.of("../shared/DOC.md");
@@ -21,6 +21,7 @@ final class Doc {
   static Map<String, String> sections() {
     String all = plain();
     Map<String, String> sections = new LinkedHashMap<>();
+    sections.put("what", between(all, "A peg to go up", "======== 1 "));
     sections.put("use", between(all, "An object is used", "## The public face"));
     sections.put("1", between(all, "======== 1 ", "An object is used") + " " + between(all, "## Terms ", "======== 2 "));
     sections.put("2", between(all, "======== 2 ", "======== 3 "));

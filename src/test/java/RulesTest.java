@@ -3,18 +3,15 @@ import java.lang.reflect.Method;
 import java.lang.reflect.Modifier;
 import java.nio.file.Files;
 import java.nio.file.Path;
+import java.util.Map;
 import java.util.Set;
+import java.util.TreeMap;
 import java.util.TreeSet;
 import java.util.regex.Matcher;
 import java.util.regex.Pattern;
 
 /** What LANGUAGE.md asks of the form, as far as a short test can tell; and that calls make no objects. */
 public final class RulesTest {
-  private static final String[] FACE = {
-    "write(I)", "wipe()", "fault()", "lay()", "peg(II)", "wind(I)", "roof(II)", "turn(I)", "flyOn()", "setDown()", "undo()",
-    "now(I)", "safe()", "way(II)", "near(I)", "undoes(I)", "either(II)", "drift(I)", "seen(III)", "forget()", "may(II)",
-    "which(III)", "likely(II)", "flight(III)", "keep()", "back()", "count(I)"
-  };
   private static final String[] FORBIDDEN = {
     "\\bthrow\\b", "\\bthrows\\b", "\\btry\\b", "\\bcatch\\b", "\\bsynchronized\\b", "\\bassert\\b", "\\bimport\\b", "\\bpackage\\b",
     "\\bprotected\\b", "->", "::", "\\bObject\\b", "Exact\\b", "\\bdouble\\b", "\\bfloat\\b", "static\\s*\\{", "\\bThread\\b", "@",
@@ -25,7 +22,7 @@ public final class RulesTest {
   private static final Pattern METHOD = Pattern.compile("(?m)^( +)(?:[\\w\\[\\]]+ )*(\\w+)\\([^;\\n]*\\) \\{$");
 
   public static void main(String[] args) throws Exception {
-    face();
+    beside();
     fields();
     nested();
     types();
@@ -33,41 +30,37 @@ public final class RulesTest {
     library();
     methods();
     makes();
+    depth();
     room();
     Check.end();
   }
 
-  private static void face() {
-    Set<String> want = new TreeSet<>(Set.of(FACE));
-    Set<String> got = new TreeSet<>();
-    Set<String> hidden = new TreeSet<>();
+  /** What the face is, FaceTest reads from the document; here: that there is nothing beside it. */
+  private static void beside() {
+    Set<String> face = faceNames();
     for (Method m : EbonyPegs.class.getDeclaredMethods()) {
-      if (Modifier.isPublic(m.getModifiers())) {
-        got.add(m.getName() + "(" + "I".repeat(m.getParameterCount()) + ")");
-        Check.holds(m + " answers an int", m.getReturnType() == int.class && !Modifier.isStatic(m.getModifiers()));
-      } else {
-        Check.holds(m + " is private", Modifier.isPrivate(m.getModifiers()));
-        hidden.add(m.getName());
-      }
+      if (Modifier.isPublic(m.getModifiers())) continue;
+      Check.holds(m + " is private", Modifier.isPrivate(m.getModifiers()));
+      Check.holds(m + " bears no name of the face", !face.contains(m.getName()));
     }
-    Check.holds("the face is the document's: " + got, got.equals(want));
-    for (String method : FACE) Check.holds("no private " + method, !hidden.contains(method.substring(0, method.indexOf('('))));
-    Check.due("constructors", EbonyPegs.class.getDeclaredConstructors().length, 1);
-    Check.holds("public and final", Modifier.isPublic(EbonyPegs.class.getModifiers()) && Modifier.isFinal(EbonyPegs.class.getModifiers()));
+  }
+
+  private static Set<String> faceNames() {
+    Set<String> names = new TreeSet<>();
+    for (Method m : EbonyPegs.class.getDeclaredMethods()) if (Modifier.isPublic(m.getModifiers())) names.add(m.getName());
+    return names;
   }
 
   private static void fields() {
-    Set<String> constants = new TreeSet<>();
     for (Field f : EbonyPegs.class.getDeclaredFields()) {
       int m = f.getModifiers();
-      if (Modifier.isPublic(m)) constants.add(f.getName());
-      else Check.holds(f + " is private", Modifier.isPrivate(m));
+      Check.holds(f + " is private, or a constant of the face", Modifier.isPrivate(m) || Modifier.isPublic(m) && Modifier.isStatic(m));
       Check.holds(f + " is final, if static", !Modifier.isStatic(m) || Modifier.isFinal(m));
     }
-    Check.holds("the constants are the document's: " + constants, constants.equals(Set.of("BAD", "NO", "FULL", "NONE")));
   }
 
   private static void nested() {
+    Set<String> face = faceNames();
     Class<?>[] classes = EbonyPegs.class.getDeclaredClasses();
     Check.holds("some twelve classes at most", classes.length <= 12);
     for (Class<?> c : classes) {
@@ -81,17 +74,12 @@ public final class RulesTest {
       Check.holds(c + " has some twenty fields at most", own <= 20);
       for (Method m : c.getDeclaredMethods()) {
         Check.holds(m + " takes seven at most", m.getParameterCount() <= 7);
-        Check.holds(m + " bears no name of the face", !isOfTheFace(m.getName()));
+        Check.holds(m + " bears no name of the face", !face.contains(m.getName()));
       }
     }
     for (Method m : EbonyPegs.class.getDeclaredMethods()) Check.holds(m + " takes seven at most", m.getParameterCount() <= 7);
     // a local, anonymous or synthetic class would be a member of the nest beside these
     Check.due("classes in the file", EbonyPegs.class.getNestMembers().length, 1 + classes.length);
-  }
-
-  private static boolean isOfTheFace(String name) {
-    for (String method : FACE) if (method.substring(0, method.indexOf('(')).equals(name)) return true;
-    return false;
   }
 
   private static void types() {
@@ -147,7 +135,7 @@ public final class RulesTest {
       long lines = bare.substring(m.start(), end).lines().count();
       Check.holds(m.group(2) + " has some sixty lines at most: " + lines, lines <= 60);
     }
-    Check.holds("all methods were looked at: " + found, found > FACE.length);
+    Check.holds("all methods were looked at: " + found, found > faceNames().size());
   }
 
   /** Rows and objects are made where an object is made: by fields and by constructors. */
@@ -161,6 +149,36 @@ public final class RulesTest {
       String body = bare.substring(m.end(), bare.indexOf("\n" + m.group(1) + "}\n", m.end() - 1));
       Check.holds(name + " makes no object", !Pattern.compile("\\bnew\\b").matcher(body).find());
     }
+  }
+
+  /**
+   * Calls go at most eight deep. Methods of one name count as one that calls what any of them
+   * calls, so the depth that is found is never too low; one that calls itself counts once.
+   */
+  private static void depth() throws Exception {
+    String bare = bare();
+    Map<String, Set<String>> called = new TreeMap<>();
+    Matcher m = METHOD.matcher(bare);
+    while (m.find()) {
+      if (Set.of("if", "for", "while", "switch").contains(m.group(2))) continue;
+      String body = bare.substring(m.end(), bare.indexOf("\n" + m.group(1) + "}\n", m.end() - 1));
+      Matcher call = Pattern.compile("\\b(\\w+)\\(").matcher(body);
+      Set<String> names = called.computeIfAbsent(m.group(2), name -> new TreeSet<>());
+      while (call.find()) names.add(call.group(1));
+    }
+    for (String name : called.keySet()) {
+      int deep = depth(called, name, Set.of());
+      Check.holds(name + " goes eight calls deep at most: " + deep, deep <= 8);
+    }
+  }
+
+  private static int depth(Map<String, Set<String>> called, String name, Set<String> open) {
+    if (!called.containsKey(name) || open.contains(name)) return 0;
+    Set<String> inner = new TreeSet<>(open);
+    inner.add(name);
+    int deepest = 0;
+    for (String next : called.get(name)) deepest = Math.max(deepest, depth(called, next, inner));
+    return 1 + deepest;
   }
 
   /** All calls of a run share one room: the constructor makes the rows, and no call makes more. */
